@@ -1651,7 +1651,7 @@ public final class StarchGarrison {
      * the least number is the fewest HOURS and among these the least set.
      */
     private static final class Ironing {
-        private static final long UNREACHED = Long.MAX_VALUE;
+        private static final long UNREACHED = 1L << 60;
         private static final long ONE_MORE = 1L << MOST_HOURS;
 
         private final Plan plan;
