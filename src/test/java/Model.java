@@ -27,7 +27,7 @@ final class Model {
 
     static Model random(Random random) {
         Model m = new Model();
-        m.hours = 1 + random.nextInt(random.nextInt(4) == 0 ? 24 : 11);
+        m.hours = random.nextInt(15) == 0 ? 24 : 1 + random.nextInt(random.nextInt(4) == 0 ? 24 : 11);
         m.law = random.nextInt(4);
         m.gap = random.nextInt(4);
         m.packets = random.nextInt(61);

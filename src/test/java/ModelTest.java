@@ -228,7 +228,7 @@ public final class ModelTest {
 
     private void shares() {
         int[] holds = new int[7];
-        int most = m.men.length > 4 ? 3 : 6;
+        int most = m.men.length > 4 && random.nextInt(4) > 0 ? 3 : 6;
         for (int n = 0; n <= most; n++) {
             Model other = m.copy();
             holds[n] = -1;

@@ -11,6 +11,7 @@ public final class TellingTest {
         faultsOfLines();
         tooManyLines();
         faultsStay();
+        ends();
         whatWasTold();
         rates();
         images();
@@ -124,6 +125,13 @@ public final class TellingTest {
         bad("garrison hours 1 law 3 gap 3 packets 60 weevils 9 odds 10", 1, 57);
         bad("garrison hours 1 law 3 gap 3 packets 60 weevils 9 odds 10 hours", 1, 58);
         bad("Garrison", 1, 0);
+        bad("garrisona", 1, 0);
+        bad("garrisonz", 1, 0);
+        bad("barrison", 1, 0);
+        bad("{", 1, 0);
+        bad("`", 1, 0);
+        bad("garrison hours 1:", 1, 16);
+        bad("garrison hours /", 1, 15);
         bad("garrison hours -1", 1, 15);
         bad("garrison\thours 1", 1, 8);
         bad("garrison\rhours 1", 1, 8);
@@ -197,6 +205,28 @@ public final class TellingTest {
         due("empty tape", x.garrison(), 0);
         due("no hours", x.count(0), 0);
         due("no garrison", x.frosts(), -2);
+    }
+
+    /** Bytes that were on the TAPE ahead of end() are not read, and a full TAPE is read to its last byte. */
+    private static void ends() {
+        String[] behind = {"0", "a", " ", ";"};
+        String[] ahead = {HEAD + "man stiff 1", HEAD + "ma", HEAD + "man ", HEAD + "man stiff 1 sweat 1 needs 1"};
+        int[] places = {HEAD.length() + 11, HEAD.length(), HEAD.length() + 4, HEAD.length() + 27};
+        for (int i = 0; i < ahead.length; i++) {
+            StarchGarrison x = new StarchGarrison();
+            Checks.put(x, ahead[i] + behind[i].repeat(3));
+            due("end", x.end(ahead[i].length()), ahead[i].length());
+            due("cut: " + ahead[i], x.garrison(), -4);
+            due("its fault", x.fault(0), 1);
+            due("its place", x.fault(1), places[i]);
+        }
+        String blanks = " ".repeat(800 - HEAD.length());
+        good(HEAD + blanks, 1);
+        bad(HEAD + blanks.substring(1) + "9", 1, 799);
+        bad(HEAD + blanks.substring(3) + "man", 1, 800);
+        bad(HEAD + blanks.substring(11) + "man stiff 7", 1, 800);
+        String man = "man stiff 0 sweat 0 needs 1;";
+        good(HEAD + blanks.substring(man.length()) + man, 2);
     }
 
     private static void whatWasTold() {
