@@ -120,6 +120,8 @@ public final class ChanceEdgesTest {
         chance("but behind it", x, 2, 0, 1);
         mean("no DAMP at FROST", x, 1, 40, 1);
         mean("4 behind it", x, 2, 36, 1);
+        StarchGarrison boiled = Checks.told(odds(2, 10) + Edges.boiled(40, 1, 40) + Edges.rain(3, 0, 0) + Edges.heat(1, 0, 0));
+        mean("4 for one boiled, too: 40 less 2, 1, 4", boiled, 1, 33, 1);
         StarchGarrison cracks = Checks.told(odds(2, 5) + Edges.man(74, 0, 1) + Edges.frost(1, 1));
         chance("DAMP keeps him from cracking", cracks, 1, 1, 2);
         mean("70 or 0", cracks, 1, 35, 1);
@@ -336,6 +338,7 @@ public final class ChanceEdgesTest {
         due(65, "no MEN", Checks.told(odds(24, 10)).drawn(0, 1), -1);
         StarchGarrison frost = Checks.told(odds(3, 10) + Edges.man(4, 0, 4) + Edges.frost(0, 0));
         due(65, "none at FROST", frost.drawn(0, 1), 2);
+        due(65, "though it is told", frost.drawn(0, 0), 7);
         StarchGarrison acts = Checks.told(odds(3, 10) + Edges.man(4, 0, 4));
         due(65, "ahead of acts", acts.drawn(0, 1), 1);
         acts.starch(0, 0, 1);

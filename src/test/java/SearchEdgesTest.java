@@ -170,6 +170,11 @@ public final class SearchEdgesTest {
         for (int i = 0; i < 6; i++) {
             due(43, "the least row of all at " + i, best.order(i), i);
         }
+        StarchGarrison middle = Checks.told(Edges.head(2, 0, 1, 0, 0, 0) + Edges.man(1, 0, 1) + Edges.man(0, 0, 1).repeat(2));
+        int[] between = {1, 0, 2};
+        for (int i = 0; i < 3; i++) {
+            due(43, "MAN 0 between the others at " + i, middle.order(i), between[i]);
+        }
         // By LAW 2 MAN 0, who SAGS, makes the one beside him lose twice: MAN 2 bears it, MAN 1 does not.
         StarchGarrison law = Checks.told(Edges.head(3, 2, 1, 0, 0, 0) + Edges.man(0, 0, 1) + Edges.man(20, 5, 10) + Edges.man(40, 5, 10));
         due(42, "who is beside whom", law.ordered(), 2);
@@ -218,10 +223,12 @@ public final class SearchEdgesTest {
         ironing("once an HOUR", one(1, 46, 0, 60), -1, -1);
         ironing("for the last HOUR", one(24, 23, 1, 1), 1, 1);
         ironing("70 at FROST", Checks.told(hours(1) + Edges.man(63, 0, 60) + Edges.frost(0, 0)), 0, 0);
-        ironing("to 70 at FROST", Checks.told(hours(3) + Edges.man(60, 5, 57) + Edges.frost(0, 0)), 1, 1);
+        ironing("to 70 at FROST", Checks.told(hours(3) + Edges.man(63, 5, 60) + Edges.frost(0, 0)), 1, 1);
         ironing("to 71 he would CRACK", Checks.told(hours(2) + Edges.man(64, 5, 60) + Edges.frost(0, 0)), 1, 2);
         ironing("he CRACKS anyway", Checks.told(hours(2) + Edges.man(71, 0, 1) + Edges.frost(1, 1)), -1, -1);
         ironing("at 99 it is of no use", one(3, 99, 9, 60), 0, 0);
+        ironing("99 and nothing lost", one(1, 99, 0, 60), 0, 0);
+        ironing("all lost behind the last HOUR", one(1, 9, 9, 1), 0, 0);
     }
 
     private static void ironedLeast() {
@@ -481,6 +488,11 @@ public final class SearchEdgesTest {
         StarchGarrison frost = Checks.told(hours(24) + Edges.man(61, 0, 1) + Edges.man(60, 0, 1) + Edges.frost(0, 0));
         due(57, "he CRACKS by it", frost.gets(0, 1, 1, 1), -2);
         due(57, "70 does not", frost.gets(1, 0, 1, 1), 22);
+        StarchGarrison beside = Checks.told(Edges.head(9, 2, 0, 0, 0, 0) + Edges.man(50, 5, 30) + Edges.man(0, 0, 10));
+        due(57, "50 40 30 20 beside one who SAGS", beside.gets(0, 1, 0, 0), 3);
+        due(57, "50 45 40 35 30 25, as the other one takes", beside.gets(0, 1, 0, 1), 5);
+        due(57, "60 50 40 30 20, he takes", beside.gets(0, 1, 1, 0), 2);
+        due(57, "60 55 .. 30 25, both", beside.gets(0, 1, 1, 1), 5);
         StarchGarrison strong = one(24, 99, 0, 1);
         due(57, "one alone", strong.gets(0, 0, 0, 0), -1000);
     }

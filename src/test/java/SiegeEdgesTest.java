@@ -358,6 +358,7 @@ public final class SiegeEdgesTest {
         due(29, "none ever STANDS", Checks.told(hours(24) + Edges.man(0, 0, 1).repeat(6)).drummer(), -1);
         due(29, "no MEN", Checks.told(hours(24)).drummer(), -1);
         due(29, "the first of several", Checks.told(hours(9) + line("xooxox")).drummer(), 1);
+        due(29, "the first of all", Checks.told(hours(9) + line("oooooo")).drummer(), 0);
         due(29, "the last", Checks.told(hours(9) + line("xxxxxo")).drummer(), 5);
         due(29, "at most HOURS", Checks.told(hours(9) + Edges.man(3, 1, 1) + Edges.man(4, 1, 1) + Edges.man(4, 1, 1)).drummer(), 1);
         due(29, "at one HOUR alone", Checks.told(hours(9) + Edges.man(0, 1, 1) + Edges.man(1, 1, 1)).drummer(), 1);
@@ -369,6 +370,9 @@ public final class SiegeEdgesTest {
             due(30, "STIFF " + one[0], one(24, one[0], 0, 30).bears(0), one[1]);
         }
         due(30, "the least of all HOURS", one(5, 50, 9, 60).bears(0), 14);
+        StarchGarrison first = one(3, 5, 0, 60);
+        first.iron(0, 1);
+        due(30, "the least at HOUR 0", first.bears(0), 5);
         due(30, "0 at the last", one(24, 23, 1, 1).bears(0), -1);
         due(30, "1 at the last", one(24, 24, 1, 60).bears(0), 1);
         due(30, "cracked", Checks.told(hours(3) + Edges.man(99, 0, 1) + Edges.frost(2, 2)).bears(0), -1);
@@ -475,6 +479,10 @@ public final class SiegeEdgesTest {
         due(35, "what is left", x.eaten(), 2);
         due(36, "then", x.empty(), 5);
         due(34, "not ahead of it", x.stock(4), 9);
+        x.undo();
+        x.starch(0, 0, 6);
+        due(34, "taken at HOUR 0", x.stock(0), 3);
+        due(35, "3 are left to eat", x.eaten(), 3);
         x.undo();
         x.iron(0, 0);
         due(34, "an ironing takes none", x.stock(4), 9);

@@ -17,6 +17,7 @@ public final class TextEdgesTest {
         linesAtMost();
         firstFault();
         tokens();
+        words();
         theEnd();
         fullTape();
         fault();
@@ -266,6 +267,13 @@ public final class TextEdgesTest {
             bad(every + line, 3, every.length());
         }
         bad(every + "boiled", 1, every.length());
+        StarchGarrison x = Checks.told(every);
+        Checks.put(x, every);
+        edges.due(4, "as many in the next one", x.garrison(), 16);
+        Checks.put(x, every + "man");
+        edges.due(4, "one more", x.garrison(), -4);
+        x.end(every.length());
+        edges.due(4, "as many behind a FAULT", x.garrison(), 16);
     }
 
     private static void firstFault() {
@@ -312,6 +320,24 @@ public final class TextEdgesTest {
         bad(HEAD + "man stiff 1 sweat 1 needs 1 boiled boiled;", 1, HEAD.length() + 35);
         bad(HEAD + "man stiff 1 sweat 1 needs 1 boiled 1;", 1, HEAD.length() + 35);
         good(HEAD + "man stiff1sweat1needs1boiled;", 2);
+    }
+
+    /** Each word with a letter more, a letter less or another letter is none that can stand there. */
+    private static void words() {
+        String text = HEAD + Edges.boiled(10, 9, 60) + Edges.rain(9, 10, 23) + Edges.heat(3, 0, 0) + Edges.frost(0, 23);
+        int start = 0;
+        for (int at = 0; at < text.length(); at++) {
+            boolean letter = Character.isLetter(text.charAt(at));
+            boolean begins = letter && (at == 0 || !Character.isLetter(text.charAt(at - 1)));
+            start = begins ? at : start;
+            if (letter) {
+                char other = text.charAt(at) == 'z' ? 'a' : (char) (text.charAt(at) + 1);
+                bad(text.substring(0, at) + other + text.substring(at + 1), 1, start);
+                bad(text.substring(0, at) + text.substring(at + 1), 1, start);
+                bad(text.substring(0, at + 1) + "z" + text.substring(at + 1), 1, start);
+                bad(text.substring(0, at + 1) + "a" + text.substring(at + 1), 1, start);
+            }
+        }
     }
 
     /** A text cut behind any TOKEN: the end can't stand there, unless a LINE is over. */
