@@ -15,6 +15,8 @@ public final class AskingTest {
             x -> x.starch(2, 4, 9),
             x -> x.anew(),
             x -> x.rate(1, 55),
+            x -> x.iron(0, 0),
+            x -> x.anew(),
             x -> x.rate(0, 1),
             x -> x.back(0),
             x -> tell(x, Edges.head(9, 0, 0, 9, 9, 9) + Edges.man(30, 3, 20) + Edges.man(40, 4, 4) + Edges.man(9, 0, 10)),
@@ -31,7 +33,9 @@ public final class AskingTest {
                 behind(question, other);
             }
             for (int changes = 1; changes <= CHANGES.size(); changes++) {
-                behindChanges(question, questions, changes);
+                for (int askedAt = 0; askedAt < changes; askedAt++) {
+                    behindChanges(question, askedAt, changes);
+                }
             }
         }
         edges.finish("AskingTest", 6, 60);
@@ -62,19 +66,21 @@ public final class AskingTest {
         }
     }
 
-    private static void behindChanges(Asked question, List<Asked> questions, int changes) {
+    /** The question is asked once ahead of one of the changes, and behind all of them. */
+    private static void behindChanges(Asked question, int askedAt, int changes) {
         StarchGarrison fresh = start();
         StarchGarrison asked = start();
-        for (Consumer<StarchGarrison> change : CHANGES.subList(0, changes)) {
-            change.accept(fresh);
-            question.answer(asked, question.plain());
-            change.accept(asked);
+        for (int i = 0; i < changes; i++) {
+            if (i == askedAt) {
+                question.answer(asked, question.plain());
+            }
+            CHANGES.get(i).accept(fresh);
+            CHANGES.get(i).accept(asked);
         }
-        long want = question.answer(fresh, question.plain());
-        edges.due(question.promise, question.name(question.plain()) + " behind " + changes + " changes",
-                question.answer(asked, question.plain()), want);
-        int[] values = question.greatest(2, 6);
-        edges.due(question.promise, question.name(values) + " behind " + changes + " changes",
-                question.answer(asked, values), question.answer(fresh, values));
+        int[][] arguments = {question.plain(), question.greatest(2, 6)};
+        for (int[] values : arguments) {
+            String call = question.name(values) + " behind " + changes + " changes, asked ahead of number " + askedAt;
+            edges.due(question.promise, call, question.answer(asked, values), question.answer(fresh, values));
+        }
     }
 }

@@ -161,6 +161,13 @@ public final class SiegeEdgesTest {
             due(11, "the one behind SAGS", x.loses(3, 0), (twice ? 24 : 12) + 3 + tenth);
             StarchGarrison between = Checks.told(law(law) + sags + stands + sags);
             due(11, "both beside SAG: twice, no more", between.loses(1, 0), (twice ? 8 : 4) + tenth);
+            StarchGarrison middle = Checks.told(law(law) + stands + stands + sags + stands + stands + sags);
+            int[] pressed = {0, 1, 0, 1, 1, 0};
+            for (int man = 0; man < 6; man++) {
+                boolean himself = man == 2 || man == 5;
+                int sweat = himself ? 3 : (twice ? 4 + 4 * pressed[man] : 4) + tenth;
+                due(11, "one in the middle SAGS, MAN " + man, middle.loses(man, 0), sweat);
+            }
             StarchGarrison ends = Checks.told(law(law) + stands + stands + sags);
             due(11, "the first is not beside the last", ends.loses(0, 0), 4 + tenth);
             due(11, "one alone has none beside", Checks.told(law(law) + sags).loses(0, 0), 3);
