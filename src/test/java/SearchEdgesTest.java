@@ -513,6 +513,8 @@ public final class SearchEdgesTest {
         due(56, "MAN -1", first.rests(0, -1), -2);
         due(56, "no MEN", Checks.told(hours(3)).rests(0, 1), -2);
         due(56, "one MAN", one(3, 1, 1, 1).rests(0, 1), -2);
+        StarchGarrison two = Checks.told(hours(24) + Edges.man(0, 0, 20).repeat(2));
+        due(56, "1 PACKET is too little, more are no choice", two.rests(0, 1), 1);
         StarchGarrison six = Checks.told(hours(3) + Edges.man(0, 0, 10).repeat(6));
         due(56, "the last two", six.rests(4, 5), 8);
         due(56, "the first and the last", six.rests(5, 0), 8);
